@@ -186,7 +186,7 @@ public final class DifferentValues {
     public int blocked() {
         for (int r = 0; r < rowCount; r++) {
             rows[r].look(domains, may);
-            if (may[rows[r].lastName()] == 0) {
+            if (may[rows[r].last] == 0) {
                 return r;
             }
         }
@@ -455,7 +455,7 @@ public final class DifferentValues {
 
     private boolean rowsHoldUpTo(int name) {
         for (int r = 0; r < rowCount; r++) {
-            if (rows[r].lastName() == name && !rows[r].holds(trial)) {
+            if (rows[r].last == name && !rows[r].holds(trial)) {
                 return false;
             }
         }
@@ -476,12 +476,17 @@ public final class DifferentValues {
 
     /** A rule over a set of names that is never empty. */
     private abstract static class Row {
+        static final int COUNT_BITS = 4;
+        static final int COUNT_MASK = (1 << COUNT_BITS) - 1;
+
         final int set;
         final int[] members;
+        final int last;
 
         Row(int set) {
             this.set = set;
             this.members = numbersIn(set);
+            this.last = members.length > 0 ? members[members.length - 1] : 0;
         }
 
         /** Writes, for each member, the values that some plan gives it: none at all if there is no plan. */
@@ -495,10 +500,6 @@ public final class DifferentValues {
 
         boolean has(int name) {
             return name >= 0 && name < MOST_NAMES && (set >> name & 1) != 0;
-        }
-
-        int lastName() {
-            return members[members.length - 1];
         }
 
         void layOut(Spread spread, int[] domains) {
@@ -523,6 +524,15 @@ public final class DifferentValues {
                 used |= 1 << values[n];
             }
             return true;
+        }
+
+        /** How often each value is there, so many bits a value: enough for the names of a set. */
+        static long counts(int[] names, int[] values) {
+            long counts = 0;
+            for (int n : names) {
+                counts += 1L << COUNT_BITS * values[n];
+            }
+            return counts;
         }
 
         boolean haveNothingInCommon(int[] domains) {
@@ -610,11 +620,9 @@ public final class DifferentValues {
         }
 
         boolean holds(int[] values) {
+            long counts = counts(members, values);
             for (int v = 0; v < VALUES; v++) {
-                int count = 0;
-                for (int n : members) {
-                    count += values[n] == v ? 1 : 0;
-                }
+                int count = (int) (counts >> COUNT_BITS * v) & COUNT_MASK;
                 if (count < low[v] || count > high[v]) {
                     return false;
                 }
@@ -712,15 +720,6 @@ public final class DifferentValues {
 
         boolean holds(int[] values) {
             return counts(first, values) == counts(second, values);
-        }
-
-        /** How often each value is there, four bits a value. */
-        private static long counts(int[] names, int[] values) {
-            long counts = 0;
-            for (int n : names) {
-                counts += 1L << 4 * values[n];
-            }
-            return counts;
         }
     }
 
