@@ -166,8 +166,8 @@ public final class DifferentValues {
             }
         }
         int gone = valuesIn(domains) - valuesIn(rest);
+        // The list of full plans stays as it is: what went was in none of them.
         System.arraycopy(rest, 0, domains, 0, MOST_NAMES);
-        planList.forget();
         return gone;
     }
 
@@ -403,7 +403,7 @@ public final class DifferentValues {
         return sum;
     }
 
-    /** Cuts the rest by the rows over stale names: the set of names that lost values, NONE if one lost all. */
+    /** Cuts the rest by the rows over stale names: the set of names that lost values, NONE if one lost all of them. */
     private int narrowRest(int stale) {
         int changed = 0;
         for (int r = 0; r < rowCount; r++) {
@@ -570,8 +570,8 @@ public final class DifferentValues {
         }
 
         /**
-         * After a look, for a value that is not possible where it was asked: the least tight set around it.
-         * Who sits on a value of a tight set must be in the set, and so must all whom its domain touches.
+         * After a look, for a value that is not possible for some other name: the least tight set with it.
+         * Who has a value of a tight set must be in the set, so all must be whom one more on the value could push.
          */
         int holdersFrom(int value) {
             int holders = 0;
@@ -772,7 +772,7 @@ public final class DifferentValues {
             layOut(spread, domains);
             int few = valuesWithFew();
             int most = spread.most();
-            // One value given costs the most at most one kind, so only then it matters which.
+            // To give a name a certain value costs one kind at most, so it matters only here.
             boolean tense = most == low;
             if (tense) {
                 spread.leaveOut(members.length - most);
@@ -837,7 +837,7 @@ public final class DifferentValues {
             return Integer.bitCount(set & (1 << name) - 1);
         }
 
-        /** Finds the least sum of the costs, or with sign -1 of what they are below 0. */
+        /** Looks for the least sum of the costs, each times the sign: whether there is any. */
         boolean settle(int[] domains, int sign) {
             cheapest.begin(members.length);
             for (int p = 0; p < members.length; p++) {
@@ -891,7 +891,7 @@ public final class DifferentValues {
         /** Being left out is one value more, so that bounds can say how many are. */
         static final int LEFT_OUT = VALUES;
         private static final int CHOICES = VALUES + 1;
-        /** Stands for the room that the bounds leave: a value with room above leads to it, one with room below is led to. */
+        /** Stands for what the bounds leave free: values that can bear one more lead to it, it leads to those that can bear one less. */
         private static final int ROOM = CHOICES;
         private static final int NODES = CHOICES + 1;
         private static final int NOWHERE = -1;
@@ -912,8 +912,8 @@ public final class DifferentValues {
         private boolean full;
 
         /** Then the caller says what is open to each place, and other bounds than 0 and 1. */
-        void begin(int count) {
-            places = count;
+        void begin(int howMany) {
+            places = howMany;
             Arrays.fill(low, 0);
             Arrays.fill(high, 1);
             high[LEFT_OUT] = 0;
@@ -1056,7 +1056,7 @@ public final class DifferentValues {
             }
         }
 
-        /** What one more on a value can push out: the values one after another, up to one that bears one less. */
+        /** Finds which values one more on a value can reach, place after place moving on to another value. */
         private void link() {
             for (int node = 0; node < NODES; node++) {
                 reach[node] = 1 << node;
@@ -1122,8 +1122,8 @@ public final class DifferentValues {
         private int places;
 
         /** Then the caller says what is open to each place, and the prices. */
-        void begin(int count) {
-            places = count;
+        void begin(int howMany) {
+            places = howMany;
         }
 
         /** Looks for the cheapest: whether there is any. */
@@ -1269,7 +1269,7 @@ public final class DifferentValues {
             }
         }
 
-        /** By how much the least sum rises if the place has the value: its owner moves on, someone fills the gap or none. */
+        /** By how much the least sum rises if the place has the value and the others make the best of it. */
         private int more(int place, int value) {
             int onward = way[nodeOf(value) * NODES + place];
             return onward == TOO_FAR ? TOO_FAR : change(place, value) + onward;

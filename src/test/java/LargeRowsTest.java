@@ -3,7 +3,7 @@ import java.util.Random;
 
 /** Rows of the greatest sizes with wide domains: too many combinations to try, so tables tell what is due. */
 public final class LargeRowsTest {
-    private static final int ROUNDS = 40;
+    private static final int ROUNDS = 150;
     private static final int NEVER = 1 << 28;
     private static int wrong = 0;
     private static int asked = 0;
@@ -42,8 +42,10 @@ public final class LargeRowsTest {
         int[] domains = new int[names];
         for (int n = 0; n < names; n++) {
             domains[n] = 1 << random.nextInt(values);
+            // Some narrow ones beside wide ones leave values that are in no plan.
+            int here = random.nextInt(3) == 0 ? 10 : density;
             for (int v = 0; v < values; v++) {
-                domains[n] |= random.nextInt(100) < density ? 1 << v : 0;
+                domains[n] |= random.nextInt(100) < here ? 1 << v : 0;
             }
         }
         return domains;
@@ -81,10 +83,19 @@ public final class LargeRowsTest {
     }
 
     private static void different(Random random) {
-        int[] domains = drawDomains(random, 8, 8 + random.nextInt(5));
+        int[] domains = drawDomains(random, 8, 6 + random.nextInt(7));
         DifferentValues x = withNames(domains);
         x.different(255);
         due("ways(0)", x.ways(0), ways(domains));
+        due("great(0)", x.great(0), spareNames(domains));
+        boolean some = ways(domains) > 0;
+        for (int n = 0; n < 8; n++) {
+            for (int v = 0; v < 12; v++) {
+                boolean has = (domains[n] >> v & 1) != 0;
+                long want = !has ? -2 : some ? leastTight(domains, n, v) : -3;
+                due("different" + Arrays.toString(domains) + " reason(0, " + n + ", " + v + ")", x.reason(0, n, v), want);
+            }
+        }
         dueIn("different", x, domains, d -> ways(d) > 0);
     }
 
@@ -104,6 +115,43 @@ public final class LargeRowsTest {
             table = next;
         }
         return Arrays.stream(table).sum();
+    }
+
+    /** 0 if there is none: then the value is in the row, as Hall's theorem says. */
+    private static int leastTight(int[] domains, int without, int value) {
+        int best = 0;
+        for (int set = 1; set < 256; set++) {
+            int union = together(domains, set);
+            boolean tight = Integer.bitCount(union) == Integer.bitCount(set);
+            boolean fits = tight && (set >> without & 1) == 0 && (union >> value & 1) != 0;
+            best = fits && (best == 0 || Integer.bitCount(set) < Integer.bitCount(best)) ? set : best;
+        }
+        return best;
+    }
+
+    private static int together(int[] domains, int set) {
+        int union = 0;
+        for (int n = 0; n < 8; n++) {
+            union |= (set >> n & 1) != 0 ? domains[n] : 0;
+        }
+        return union;
+    }
+
+    private static int spareNames(int[] domains) {
+        int spare = 0;
+        for (int n = 0; n < 8; n++) {
+            spare |= mostServed(domains, 255 & ~(1 << n)) == mostServed(domains, 255) ? 1 << n : 0;
+        }
+        return spare;
+    }
+
+    /** By Ore's formula: all but as many as some set has names above its values. */
+    private static int mostServed(int[] domains, int names) {
+        int lacking = 0;
+        for (int set = names; set > 0; set = set - 1 & names) {
+            lacking = Math.max(lacking, Integer.bitCount(set) - Integer.bitCount(together(domains, set)));
+        }
+        return Integer.bitCount(names) - lacking;
     }
 
     private static void counted(Random random) {

@@ -183,6 +183,7 @@ public final class PromisesTest {
             due("different(3)", x.different(3), i);
         }
         due("row 13", x.different(3), -4);
+        due("sure(12)", x.sure(12), -1);
         due("counted, row 13", x.counted(3), -4);
         due("same, row 13", x.same(1, 2), -4);
         due("turned, row 13", x.turned(1, 2), -4);
@@ -297,6 +298,7 @@ public final class PromisesTest {
         DifferentValues y = withNames(15, 15, 15, 15, 15, 15);
         due("turned(21, 42)", y.turned(21, 42), 0);
         due("in(0, 0, 3)", y.in(0, 0, 3), 0);
+        due("plans()", y.plans(), 6);
         due("run()", y.run(), 6);
         due("keep(0, 2)", y.keep(0, 2), 2);
         due("run()", y.run(), 2 + 2 + 2);
@@ -340,9 +342,16 @@ public final class PromisesTest {
         due("in(0, 0, 0)", z.in(0, 0, 0), 1);
         due("in(0, 1, 1)", z.in(0, 1, 1), 1);
         DifferentValues few = withNames(3, 5, 9, 48);
+        due("plans()", few.plans(), 16);
         due("kinds(15, 0, 2)", few.kinds(15, 0, 2), 0);
+        due("plans()", few.plans(), 2);
         due("run()", few.run(), 3);
         dueDomains(few, 1, 1, 1, 48);
+        DifferentValues two = withNames(7, 7, 7);
+        two.kinds(7, 2, 2);
+        due("plans() of two kinds", two.plans(), 18);
+        two.kinds(7, 3, 3);
+        due("plans() of two and of three kinds", two.plans(), 0);
     }
 
     private static void promise10Dear() {
@@ -374,6 +383,9 @@ public final class PromisesTest {
         due("dear(3, 1000000)", rich.dear(3, 1000000), 0);
         due("in(0, 1, 0) of two that would have one value", rich.in(0, 1, 0), 0);
         due("in(0, 1, 1)", rich.in(0, 1, 1), 1);
+        rich.keep(1, 1);
+        due("blocked() of two with one value", rich.blocked(), 0);
+        due("in(0, 0, 0)", rich.in(0, 0, 0), 0);
     }
 
     private static void promise11Cost() {
