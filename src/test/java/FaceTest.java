@@ -117,10 +117,16 @@ public final class FaceTest {
 
     private static void source(String text) {
         String code = text.replaceAll("(?s)/\\*.*?\\*/", " ").replaceAll("//[^\n]*", " ").replaceAll("\"[^\"\n]*\"", "\"\"");
+        // An arrow behind a case is no lambda.
+        code = code.replaceAll("(?:\\bcase\\b[^;{}]*?|\\bdefault\\s*)->", " ");
         String[] outside = {
-            "->", "::", "@", "\\bpackage\\b", "\\bsynchronized\\b", "\\bassert\\b", "\\bfinally\\b", "\\btry\\b", "\\bvar\\b",
-            "Exact\\b", "\\bdouble\\b", "\\bfloat\\b", "\\bRandom\\b", "\\bThread\\b", "\\bSystem\\.(?!arraycopy)",
-            "\\bMath\\.(?!max|min|abs)", "\\bArrays\\.(?!fill|copyOf)", "\\bInteger\\.(?!bitCount)", "\\bimport (?!java\\.util\\.Arrays;)"};
+            "->", "::", "\\bpackage\\b", "\\bsynchronized\\b", "\\bassert\\b", "\\bfinally\\b", "\\btry\\s*\\(", "Exact\\b",
+            "\\bRandom\\b", "\\bThread\\b", "\\bSystem\\.(?!arraycopy\\b)", "\\bArrays\\.(?!fill\\b|copyOf\\b|copyOfRange\\b)",
+            "\\bMath\\.(?!max\\b|min\\b|abs\\b|floorDiv\\b|floorMod\\b)", "\\bstatic\\s*\\{", "\\bgetMessage\\b",
+            "\\bhashCode\\b", "\\[\\s*\\]\\s*\\[\\s*\\]\\s*\\[",
+            "\\bimport (?!java\\.util\\.(?:Arrays|ArrayList|List|Iterator|NoSuchElementException);)",
+            "\\bcatch\\s*\\(\\s*(?:final\\s+)?(?:Throwable|Exception|Error|NullPointerException|ArrayIndexOutOfBoundsException"
+                + "|ClassCastException|NegativeArraySizeException|ArrayStoreException)\\b"};
         for (String pattern : outside) {
             Matcher m = Pattern.compile(pattern).matcher(code);
             check(!m.find(), "the source is without " + pattern);
