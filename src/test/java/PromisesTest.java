@@ -31,6 +31,8 @@ public final class PromisesTest {
         promise24Plans();
         promise25Plan();
         promise26Told();
+        allSortsTogether();
+        readme();
         System.out.println(wrong == 0 ? asked + " answers are as due" : wrong + " of " + asked + " answers are not as due");
         if (wrong != 0) {
             System.exit(1);
@@ -812,5 +814,71 @@ public final class PromisesTest {
         due("told(4)", x.told(4), 4);
         x.keep(1, 1);
         due("told(4) of a row without a plan", x.told(4), 1 + 1 + 3 + 1);
+    }
+
+    /** By the turned row the names have 0 1 0 1 or 1 0 1 0, and the first of them is too dear. */
+    private static void allSortsTogether() {
+        part = "all six sorts over names that they share";
+        DifferentValues x = withNames(15, 15, 15, 15);
+        due("turned(3, 12)", x.turned(3, 12), 0);
+        due("same(3, 12)", x.same(3, 12), 1);
+        due("different(3)", x.different(3), 2);
+        due("counted(6)", x.counted(6), 3);
+        due("limits(3, 0, 1, 1)", x.limits(3, 0, 1, 1), 8);
+        due("kinds(15, 2, 2)", x.kinds(15, 2, 2), 4);
+        due("dear(9, 5)", x.dear(9, 5), 5);
+        due("cost(5, 0, 0, 3)", x.cost(5, 0, 0, 3), 1000);
+        due("cost(5, 3, 1, 3)", x.cost(5, 3, 1, 3), 1000);
+        due("told(3)", x.told(3), 16);
+        // 2 and 3 of each name of the turned row; the other rows by themselves leave all.
+        due("told(4)", x.told(4), 8);
+        due("in(5, 0, 0)", x.in(5, 0, 0), 1);
+        due("plans()", x.plans(), 1);
+        due("plan(0, 0)", x.plan(0, 0), 1);
+        due("plan(0, 3)", x.plan(0, 3), 0);
+        due("mark()", x.mark(), 1);
+        due("keep(0, 13)", x.keep(0, 13), 1);
+        // Each row has a plan by itself, but not with what the others leave.
+        due("blocked()", x.blocked(), -1);
+        due("run()", x.run(), -3);
+        due("domain(0)", x.domain(0), 13);
+        due("domain(3)", x.domain(3), 15);
+        due("plans()", x.plans(), 0);
+        due("limits(3, 0, 0, 8)", x.limits(3, 0, 0, 8), -3);
+        due("back(1)", x.back(1), 1);
+        due("run()", x.run(), 12);
+        for (int n = 0; n < 4; n++) {
+            due("domain(" + n + ")", x.domain(n), n % 2 == 0 ? 2 : 1);
+        }
+        for (int r = 0; r < 6; r++) {
+            due("sure(" + r + ")", x.sure(r), 1);
+        }
+        due("told(3)", x.told(3), 4);
+        due("told(4)", x.told(4), 0);
+        due("run()", x.run(), 0);
+        due("plan(0, 2)", x.plan(0, 2), 1);
+        due("limits(3, 1, 0, 0)", x.limits(3, 1, 0, 0), 8);
+        due("blocked()", x.blocked(), 3);
+        due("run()", x.run(), -3);
+        due("plans()", x.plans(), 0);
+    }
+
+    private static void readme() {
+        part = "README.md";
+        DifferentValues x = new DifferentValues();
+        int a = x.name(0b0011);
+        x.name(0b0011);
+        int c = x.name(0b1111);
+        int row = x.different(0b111);
+        due("in(row, c, 0)", x.in(row, c, 0), 0);
+        due("reason(row, c, 0)", x.reason(row, c, 0), 0b011);
+        due("run()", x.run(), 2);
+        due("domain(c)", x.domain(c), 0b1100);
+        due("mark()", x.mark(), 1);
+        due("keep(c, 0b0100)", x.keep(c, 0b0100), 1);
+        due("plans()", x.plans(), 2);
+        due("plan(0, a)", x.plan(0, a), 0);
+        due("back(1)", x.back(1), 1);
+        due("domain(c)", x.domain(c), 0b1100);
     }
 }
